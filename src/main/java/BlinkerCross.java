@@ -1472,6 +1472,8 @@ public final class BlinkerCross {
         private final Text text;
         private final Scene scene;
         private final Laws laws;
+        private final int[] seen = new int[MOST_GOERS];
+        /** By goer, road and how many take it. */
         private final int[] gains = new int[MOST_WANTS * MOST_GOERS];
         private final int[] pick = new int[MOST_GOERS];
         private final int[] takers = new int[MOST_ROADS];
@@ -1536,6 +1538,7 @@ public final class BlinkerCross {
             }
             gainsFor = scene.version;
             for (int g = 0; g < text.goers; g++) {
+                seen[g] = scene.seenBits(g);
                 for (int r = 0; r < text.roads; r++) {
                     for (int k = 1; k <= text.goers; k++) {
                         gains[(g * MOST_ROADS + r) * MOST_GOERS + k - 1] = laws.gainOf(scene, g, r, k);
@@ -1561,9 +1564,8 @@ public final class BlinkerCross {
                 weigh();
                 return;
             }
-            int seen = scene.seenBits(goer);
             for (int r = 0; r < text.roads; r++) {
-                if ((seen >> r & 1) == 1) {
+                if ((seen[goer] >> r & 1) == 1) {
                     pick[goer] = r;
                     takers[r]++;
                     giveFrom(goer + 1);
@@ -1594,11 +1596,21 @@ public final class BlinkerCross {
 
         private boolean isRest() {
             for (int g = 0; g < text.goers; g++) {
-                if (bestMove(g) != pick[g]) {
+                if (wouldChange(g)) {
                     return false;
                 }
             }
             return true;
+        }
+
+        private boolean wouldChange(int goer) {
+            int own = gain(goer, pick[goer], takers[pick[goer]]);
+            for (int r = 0; r < text.roads; r++) {
+                if ((seen[goer] >> r & 1) == 1 && r != pick[goer] && gain(goer, r, takers[r] + 1) > own) {
+                    return true;
+                }
+            }
+            return false;
         }
 
         /** The road that the goer has, unless another one that is seen gains more. */
