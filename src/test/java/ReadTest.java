@@ -235,6 +235,13 @@ public final class ReadTest {
         check.due("want(0, 0)", x.want(0, 0), 0);
         check.due("goer(0, 8)", x.goer(0, 8), 0);
         check.due("goer(0, 9)", x.goer(0, 9), 0);
+        // the seed is 0 again: LOT 69, not the 67 of seed 7
+        Check.feed(x, "seed 7;");
+        x.read();
+        Check.feed(x, "road a 1;road b 1;goer p a 1;turns=69;");
+        x.read();
+        x.days(1);
+        check.due("seed if not told", x.goer(0, 0), 0);
         check.due("read() of nothing", x.read(), 0);
         check.due("count(0)", x.count(0), 0);
         check.due("count(1)", x.count(1), 0);

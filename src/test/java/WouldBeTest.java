@@ -119,6 +119,33 @@ public final class WouldBeTest {
         BlinkerCross x = Check.of("road a 1;road b 1;road c 1;goer p c 3;wants p a 9;wants p b 5;wants p c 5;"
                 + "crowds=if want<9 then 0 else 9;");
         check.due("settles()", x.settles(), 1);
+        // of most GAIN: straight to b, not by way of c
+        BlinkerCross y = Check.of("road a 1;road b 1;road c 1;goer p a 3;wants p a 9;wants p b 5;wants p c 3;"
+                + "crowds=if want<9 then 0 else 9;");
+        check.due("settles()", y.settles(), 1);
+        int[] twenty = {30, 76, 77, 53, 58, 77, 76, 95, 89, 62, 60, 90, 66, 64, 89, 51, 40, 86, 58, 43, 71, 63, 88, 44,
+            90, 69, 46, 2, 8, 56};
+        int[] more = {30, 76, 77, 53, 58, 77, 76, 95, 89, 62, 49, 90, 66, 42, 89, 51, 25, 86, 58, 43, 71, 74, 88, 42,
+            90, 39, 27, 2, 8, 62};
+        check.due("behind 20 rounds", longWay(twenty).settles(), 20);
+        check.due("behind 21 rounds", longWay(more).settles(), -2);
+    }
+
+    /** A crossing, come by through a search, at which the goers change roads again and again. */
+    private static BlinkerCross longWay(int[] wants) {
+        StringBuilder text = new StringBuilder();
+        for (int r = 0; r < 6; r++) {
+            text.append("road r").append((char) ('a' + r)).append(' ').append(r + 1).append(';');
+        }
+        for (int g = 0; g < 5; g++) {
+            text.append("goer g").append((char) ('a' + g)).append(" ra 6;");
+        }
+        String sum = "(want*54+here*61+which*11+want*here)";
+        BlinkerCross x = Check.of(text + "crowds=" + sum + "-" + sum + "/87*87;");
+        for (int i = 0; i < wants.length; i++) {
+            x.wish(i / 6, i % 6, wants[i]);
+        }
+        return x;
     }
 
     private static void oneRoadEach() {
@@ -276,6 +303,10 @@ public final class WouldBeTest {
         check.due("year(0, 0, 2, 2)", x.year(0, 0, 2, 2), 2);
         check.due("year(0, 1, 2, 2)", x.year(0, 1, 2, 2), 0);
         check.due("year(0, 0, 0, 20)", x.year(0, 0, 0, 20), 20);
+        // LOTs of the seeds 7, 8, 9: 67, 55, 29; of 6: 17
+        BlinkerCross y = Check.of("road a 1;road b 1;goer p a 1;turns=50;seed 7;");
+        check.due("year(0, 1, 1, 2)", y.year(0, 1, 1, 2), 0);
+        check.due("year(0, 1, 1, 3)", y.year(0, 1, 1, 3), 1);
         check.due("both, in 60 days", x.year(0, 0, 60, 20) + x.year(0, 1, 60, 20), 20);
         int[][] no = {{-1, 0, 1, 1}, {1, 0, 1, 1}, {0, -1, 1, 1}, {0, 2, 1, 1}, {0, 0, -1, 1}, {0, 0, 61, 1},
             {0, 0, 1, 0}, {0, 0, 1, 21}};
