@@ -543,9 +543,9 @@ public final class BlinkerCross {
         return goer >= 0 && goer < text.goers;
     }
 
-    /** With n things to come, times 10 to the power of n; with none to come nothing is had at all. */
+    /** With n things to come, times 10 to the power of n; with none to come 0, which no thing is worth less than. */
     private static int searchWorth(int n, int c) {
-        int worth = Integer.MIN_VALUE;
+        int worth = 0;
         int unit = 1;
         for (int k = 0; k < n; k++) {
             int sum = 0;
@@ -1759,7 +1759,7 @@ public final class BlinkerCross {
 
         int bestMark(int bits, int v) {
             int best = 0;
-            int fewest = Integer.MAX_VALUE;
+            int fewest = MOST_GOERS + 1;
             for (int mark = 0; mark < MARKS; mark++) {
                 int left = leftAtWorst(mark, bits, v);
                 if (left < fewest) {

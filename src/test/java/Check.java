@@ -10,6 +10,10 @@ final class Check {
         about = what;
     }
 
+    int done() {
+        return done;
+    }
+
     void due(String call, long got, long want) {
         done++;
         if (got != want) {
@@ -20,6 +24,19 @@ final class Check {
 
     void due(String call, boolean got, boolean want) {
         due(call, got ? 1 : 0, want ? 1 : 0);
+    }
+
+    /** Two rows of answers, as state(x) gives them, must be alike. */
+    void same(String what, int[] got, int[] due) {
+        due(what + ": how many answers", got.length, due.length);
+        for (int i = 0; i < got.length && i < due.length; i++) {
+            due(what + ": answer " + i + " of state", got[i], due[i]);
+        }
+    }
+
+    void fail(String why) {
+        wrong++;
+        System.out.println(about + ": " + why);
     }
 
     /** Ends the test's run: exit code 1 if an answer was wrong. */
@@ -58,5 +75,35 @@ final class Check {
             throw new IllegalStateException("fault " + fault + " at " + x.place() + " of " + text);
         }
         return x;
+    }
+
+    /**
+     * How it is, as the face tells it: counts, then what is told of each goer and each road, and which
+     * goers all that is TOLD leaves. Nothing has happened between two rows that are alike.
+     */
+    static int[] state(BlinkerCross x) {
+        int roads = x.count(0);
+        int goers = x.count(1);
+        int[] out = new int[17 + goers * (12 + roads) + 4 * roads];
+        int n = 0;
+        for (int what = 0; what <= 15; what++) {
+            out[n++] = x.count(what);
+        }
+        for (int g = 0; g < goers; g++) {
+            for (int what = 0; what <= 10; what++) {
+                out[n++] = x.goer(g, what);
+            }
+            out[n++] = x.gained(g);
+            for (int r = 0; r < roads; r++) {
+                out[n++] = x.want(g, r);
+            }
+        }
+        for (int r = 0; r < roads; r++) {
+            for (int what = 0; what <= 3; what++) {
+                out[n++] = x.road(r, what);
+            }
+        }
+        out[n] = x.who(x.count(10), 1);
+        return out;
     }
 }

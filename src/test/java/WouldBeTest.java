@@ -7,6 +7,20 @@ public final class WouldBeTest {
     private static final String CHASE = "road a 1;road b 1;goer p a 2;goer q a 2;wants p a 50;wants p b 50;"
             + "wants q a 50;wants q b 50;crowds=if which<1 then 20-here*10 else here*10;";
 
+    /** WANTS, goer by goer, of two crossings that are 20 and 21 rounds from where a round changes nothing. */
+    static final int[] TWENTY = {
+        30, 76, 77, 53, 58, 77,
+        76, 95, 89, 62, 60, 90,
+        66, 64, 89, 51, 40, 86,
+        58, 43, 71, 63, 88, 44,
+        90, 69, 46, 2, 8, 56};
+    static final int[] MORE = {
+        30, 76, 77, 53, 58, 77,
+        76, 95, 89, 62, 49, 90,
+        66, 42, 89, 51, 25, 86,
+        58, 43, 71, 74, 88, 42,
+        90, 39, 27, 2, 8, 62};
+
     public static void main(String[] args) {
         plans();
         rests();
@@ -123,16 +137,12 @@ public final class WouldBeTest {
         BlinkerCross y = Check.of("road a 1;road b 1;road c 1;goer p a 3;wants p a 9;wants p b 5;wants p c 3;"
                 + "crowds=if want<9 then 0 else 9;");
         check.due("settles()", y.settles(), 1);
-        int[] twenty = {30, 76, 77, 53, 58, 77, 76, 95, 89, 62, 60, 90, 66, 64, 89, 51, 40, 86, 58, 43, 71, 63, 88, 44,
-            90, 69, 46, 2, 8, 56};
-        int[] more = {30, 76, 77, 53, 58, 77, 76, 95, 89, 62, 49, 90, 66, 42, 89, 51, 25, 86, 58, 43, 71, 74, 88, 42,
-            90, 39, 27, 2, 8, 62};
-        check.due("behind 20 rounds", longWay(twenty).settles(), 20);
-        check.due("behind 21 rounds", longWay(more).settles(), -2);
+        check.due("behind 20 rounds", longWay(TWENTY).settles(), 20);
+        check.due("behind 21 rounds", longWay(MORE).settles(), -2);
     }
 
     /** A crossing, come by through a search, at which the goers change roads again and again. */
-    private static BlinkerCross longWay(int[] wants) {
+    static BlinkerCross longWay(int[] wants) {
         StringBuilder text = new StringBuilder();
         for (int r = 0; r < 6; r++) {
             text.append("road r").append((char) ('a' + r)).append(' ').append(r + 1).append(';');
