@@ -134,6 +134,15 @@ public final class EdgesAheadTest {
         plan(Check.of(text + "roads*seen;"), 6, 0, 6, 2);
     }
 
+    static void p16StandsHeldTo0To99() {
+        String text = TWO + "goer p a 1;goer q a 1;stands=";
+        plan(Check.of(text + "if which<1 then 500 else 3;"), 999, 0, 102, 1, 1);
+        plan(Check.of(text + "if which<1 then 500 else 3;"), 101, -3, -3, -3, -3);
+        plan(Check.of(text + "if which<1 then 0-500 else 3;"), 999, 0, 3, 1, 1);
+        plan(Check.of(text + "if which<1 then 0-500 else 3;"), 2, -3, -3, -3, -3);
+        plan(Check.of(text + "9+1/which;"), 999, 0, 10, 1, 1);
+    }
+
     static void p16SetNow() {
         BlinkerCross x = Check.of("road a 1;goer p a 1;stands=stood+day+seen;");
         plan(x, 1, 0, 1, 1);
@@ -395,6 +404,15 @@ public final class EdgesAheadTest {
         check.due("bestGiving(0)", x.bestGiving(0), 0);
         BlinkerCross y = Check.of("road a 1;" + FIVE + "crowds=99;");
         check.due("bestGiving(-1)", y.bestGiving(-1), -495);
+    }
+
+    static void p19GainByCrowdsHeldTo0To99() {
+        String text = TWO + "goer p a 2;wants p a 1;wants p b 4;crowds=";
+        check.due("more than 99", Check.of(text + "500;").bestGiving(-1), 4 - 99);
+        check.due("below 0", Check.of(text + "0-500;").bestGiving(-1), 4);
+        check.due("by the road", Check.of(text + "500-want*100;").bestGiving(-1), 4 - 99);
+        check.due("bestRest(-1)", Check.of(text + "500;").bestRest(-1), 4 - 99);
+        check.due("settles()", Check.of(text + "100+want*100;").settles(), 0);
     }
 
     static void p19RestOrNot() {

@@ -450,6 +450,21 @@ public final class EdgesOfStateTest {
         check.due("no such GOER all the same", x.gained(2), -100000);
     }
 
+    static void p08GainByCrowdsHeldTo0To99() {
+        int[][] due = {{9999, 7 - 99}, {100, 7 - 99}, {98, 7 - 98}, {0, 7}};
+        for (int[] d : due) {
+            BlinkerCross x = Check.of("road a 4;goer p a 1;wants p a 7;crowds=" + d[0] + ";");
+            x.days(2);
+            check.due("gained(0) with crowds=" + d[0], x.gained(0), 2 * d[1]);
+        }
+        BlinkerCross y = Check.of("road a 4;goer p a 1;wants p a 7;crowds=0-9999;");
+        y.days(2);
+        check.due("gained(0) with crowds below 0", y.gained(0), 14);
+        BlinkerCross z = Check.of("road a 4;goer p a 1;wants p a 7;crowds=9+1/day;");
+        z.days(1);
+        check.due("gained(0) with CROWDS divided by 0", z.gained(0), 7);
+    }
+
     static void p09NoSuchOnes() {
         BlinkerCross x = Check.of(PAIR);
         int[][] no = {{-1, 0}, {2, 0}, {0, -1}, {0, 2}, {-1, -1}, {2, 2}, {MIN, 0}, {MAX, 0}, {0, MIN}, {0, MAX}, {5, 0},
@@ -774,6 +789,26 @@ public final class EdgesOfStateTest {
             x.days(1);
         }
         check.due("stood", x.goer(0, 7), 11);
+    }
+
+    static void p14WhoKeepsByMoreThan0() {
+        String[] keeps = {"0", "1", "0-1", "9999", "4096*4096*128", "5/day"};
+        int[] due = {3, 2, 3, 2, 3, 3};
+        for (int i = 0; i < keeps.length; i++) {
+            BlinkerCross x = Check.of(SIX + "goer p a 3;keeps=" + keeps[i] + ";");
+            x.days(1);
+            check.due("SIGHT with keeps=" + keeps[i], x.goer(0, 1), due[i]);
+        }
+    }
+
+    static void p14StandsHeldTo0To99() {
+        String[] stands = {"0-1", "0", "99", "100", "9999*9999", "5/day"};
+        int[] due = {0, 0, 99, 99, 99, 0};
+        for (int i = 0; i < stands.length; i++) {
+            BlinkerCross x = Check.of(SIX + "goer p a 3;stands=" + stands[i] + ";");
+            x.days(1);
+            check.due("stood with stands=" + stands[i], x.goer(0, 7), due[i]);
+        }
     }
 
     static void p14TheNextRoadBehindTheLastIsTheFirst() {

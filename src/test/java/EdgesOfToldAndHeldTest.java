@@ -457,6 +457,12 @@ public final class EdgesOfToldAndHeldTest {
         check.due("MISSED", z.count(4), 495);
     }
 
+    static void p38StandsAndCrowdsHeldTo0To99() {
+        BlinkerCross x = Check.of("road a 1;goer p a 1;goer q a 1;stands=500-which*1000;crowds=500-which*1000;");
+        check.due("STANDS 99 and 0", x.count(3), 99);
+        check.due("GAIN -99 and 0", x.count(5), -99);
+    }
+
     static void p38ChosenAndSeenRoads() {
         BlinkerCross x = Check.of(SIX + "goer p f 2;goer q c 1;wants p a 4;");
         check.due("chosen: a, c", x.count(6), 1 + 4);
