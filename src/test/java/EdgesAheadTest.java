@@ -393,6 +393,22 @@ public final class EdgesAheadTest {
         check.due("no GOERS: the first", new BlinkerCross().bestGiving(0), -100000);
     }
 
+    /** With more roads than goers, with fewer, and with none: a goer's number is no road's. */
+    static void p19AsManyAsThereAreGoersHoweverManyRoads() {
+        BlinkerCross x = Check.of(SIX + "goer p a 6;goer q a 6;");
+        BlinkerCross y = Check.of("road a 1;" + FIVE);
+        for (int i = 0; i < 7; i++) {
+            check.due("six roads: bestGiving(" + i + ")", x.bestGiving(i), i < 2 ? i : -100000);
+            check.due("six roads: bestRest(" + i + ")", x.bestRest(i), i < 2 ? i : -100000);
+            check.due("six roads: oneEach(" + i + ")", x.oneEach(i), i < 2 ? -2 : -1);
+            check.due("six roads: plan(9, " + i + ")", x.plan(9, i), i < 2 ? 1 : -1);
+            check.due("one road: bestGiving(" + i + ")", y.bestGiving(i), i < 5 ? 0 : -100000);
+            check.due("one road: bestRest(" + i + ")", y.bestRest(i), i < 5 ? 0 : -100000);
+            check.due("one road: oneEach(" + i + ")", y.oneEach(i), i < 5 ? -2 : -1);
+            check.due("one road: plan(9, " + i + ")", y.plan(9, i), i < 5 ? 1 : -1);
+        }
+    }
+
     static void p19MayBeBelow0() {
         BlinkerCross x = Check.of(TWO + "goer p a 2;wants p a 1;wants p b 3;crowds=9;");
         check.due("bestGiving(-1)", x.bestGiving(-1), -6);

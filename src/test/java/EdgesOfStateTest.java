@@ -371,6 +371,19 @@ public final class EdgesOfStateTest {
         check.due("CROWDS with 1 here", x.crowds(0, 0, 1), 8);
     }
 
+    /** Of 400 tokens nine are for a road and a goer; the law's last number counts. */
+    static void p07TheLongestLawThatCanBe() {
+        String ends = "road a 1;goer p a 1;";
+        String long387 = "1" + "+1-1".repeat(96) + "+5";
+        check.due("399 tokens: STANDS", Check.of(ends + "stands=" + long387 + ";").goer(0, 4), 6);
+        check.due("KEEPS", Check.of(ends + "keeps=0" + "+1-1".repeat(96) + "+1;").goer(0, 8), 1);
+        String long388 = "if 0<0 then 0 else 3" + "*7/7".repeat(94) + "+5-1";
+        check.due("400 tokens: TURNS", Check.of(ends + "turns=" + long388 + ";").goer(0, 9), 7);
+        check.due("CROWDS", Check.of(ends + "crowds=" + long388 + ";").crowds(0, 0, 1), 7);
+        String tests = "if " + "1*".repeat(90) + "here<" + "1*".repeat(90) + "1 then 3 else 8+seen;";
+        check.due("a long test: STANDS", Check.of(ends + "stands=" + tests).goer(0, 4), 9);
+    }
+
     static void p07NextIsTheGreatestOther() {
         String text = THREE + "goer p a 2;wants p a 9;wants p b 4;wants p c 50;stands=next;";
         BlinkerCross x = Check.of(text);
@@ -872,6 +885,32 @@ public final class EdgesOfStateTest {
                 lot(9999, day, g, most[day][g]);
             }
         }
+    }
+
+    /** LOT 0 with 33, and without a seed, which is 0, LOT 69; worked out outside. */
+    static void p14ByTheSeedWhereverItIsTold() {
+        String[] tells = {"road c 1;", "goer q c 1;", "wants p a 5;", "wants q c 9;", "turns=1;", "keeps=which;"};
+        String ends = "road a 1;road b 1;goer p a 1;";
+        for (int at = 0; at <= tells.length; at++) {
+            StringBuilder text = new StringBuilder(ends);
+            for (int i = 0; i < tells.length; i++) {
+                text.append(i == at ? "seed 33;" : "").append(tells[i]);
+            }
+            BlinkerCross x = Check.of(text + (at == tells.length ? "seed 33;" : ""));
+            x.days(1);
+            check.due("the seed ahead of tell " + at, x.goer(0, 0), 1);
+        }
+        check.due("ahead of all", turned("seed 33;" + ends + "turns=1;"), 1);
+        check.due("the last one", turned("seed 33;" + ends + "turns=1;seed 7;"), 0);
+        check.due("the last one", turned("seed 7;" + ends + "turns=1;seed 33;wants p b 0;"), 1);
+        check.due("none, not less than TURNS", turned(ends + "wants p a 5;turns=69;"), 0);
+        check.due("none, less than TURNS", turned(ends + "wants p a 5;turns=70;"), 1);
+    }
+
+    private static int turned(String text) {
+        BlinkerCross x = Check.of(text);
+        x.days(1);
+        return x.goer(0, 0);
     }
 
     static void p14LotsOfLateDays() {

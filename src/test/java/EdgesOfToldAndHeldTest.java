@@ -239,6 +239,19 @@ public final class EdgesOfToldAndHeldTest {
         check.due("one is left: all alike", x.look(2, 4), 0);
     }
 
+    static void p35AllFiveButOneAreLeftAtWorst() {
+        // CHOICE 0 of all, STANDS 1 of all; MISSED 9 of p alone, so that four are left at worst, else five
+        BlinkerCross x = Check.of(SIX + FIVE + "wants p f 9;");
+        check.due("by 9: MISSED", x.look(0, 9), 2);
+        // all are alike, but that s alone SEES two
+        BlinkerCross y = Check.of(SIX + "goer p a 1;goer q a 1;goer r a 1;goer s a 2;goer t a 1;stands=1;");
+        check.due("by 2: how many they SEE", y.look(0, 2), 3);
+        BlinkerCross z = Check.of("road a 1;" + FIVE + "stands=which/4*7;");
+        check.due("by 7: STANDS", z.look(0, 7), 1);
+        z.days(1);
+        check.due("by 7: STANDS ahead of how long they stood", z.look(0, 7), 1);
+    }
+
     static void p35HowLongTheyStoodIsTheLastMark() {
         BlinkerCross x = Check.of("road a 1;goer p a 1;goer q a 1;stands=if day<1 then which else 5;");
         x.days(1);
