@@ -134,6 +134,20 @@ public final class EdgesAheadTest {
         plan(Check.of(text + "roads*seen;"), 6, 0, 6, 2);
     }
 
+    static void p16NextByTheSightsOfThePlan() {
+        // a is chosen by each SIGHT: next is 0, 4, 6, whichever the SIGHT is now
+        for (int now = 1; now <= 3; now++) {
+            String text = THREE + "goer p a " + now + ";wants p a 9;wants p b 4;wants p c 6;stands=if seen<";
+            plan(Check.of(text + "1 then 99 else next;"), 9, 0, 0, 1);
+            plan(Check.of(text + "2 then 99 else next;"), 9, 0, 4, 2);
+            plan(Check.of(text + "3 then 99 else next;"), 9, 0, 6, 3);
+        }
+        // faced is c: next is 0, 9, 9, as c, a, b are seen
+        String text = THREE + "goer p c 1;wants p a 9;wants p b 4;wants p c 10;stands=if seen<";
+        plan(Check.of(text + "2 then 99 else next-seen;"), 99, 0, 6, 3);
+        plan(Check.of(text + "2 then 99 else next+seen;"), 99, 0, 11, 2);
+    }
+
     static void p16StandsHeldTo0To99() {
         String text = TWO + "goer p a 1;goer q a 1;stands=";
         plan(Check.of(text + "if which<1 then 500 else 3;"), 999, 0, 102, 1, 1);
@@ -507,6 +521,15 @@ public final class EdgesAheadTest {
                 .settles(), 2);
     }
 
+    static void p20AsManyOnEachAsTheOthersHaveIt() {
+        // p faces b, 50 less 45; of the others c gives 30 less 10, a 25 less 10
+        String wants = "wants p b 50;wants p c 30;wants p a 25;crowds=if want<50 then here*10 else 45;";
+        check.due("to c at once", Check.of(THREE + "goer p b 3;" + wants).settles(), 1);
+        check.due("to c at once, seen last", Check.of("road c 1;road b 1;road a 1;goer p b 3;" + wants).settles(), 1);
+        // r is on c: there it is 30 less 20, so that it is a
+        check.due("to a at once", Check.of(THREE + "goer p b 3;goer r c 1;" + wants).settles(), 1);
+    }
+
     static void p20OfMostGain() {
         check.due("straight to b", Check.of(THREE + "goer p a 3;wants p a 9;wants p b 5;wants p c 4;"
                 + "crowds=if want<9 then 0 else 9;").settles(), 1);
@@ -555,6 +578,12 @@ public final class EdgesAheadTest {
         each(x, 4, 0, -2);
     }
 
+    static void p21NoneForTheNextOneByWhatIsTaken() {
+        each(Check.of(THREE + "goer p a 1;goer q a 1;goer r a 1;wants p b 9;wants r a 5;"), 14, 1, -2, 0);
+        each(Check.of(THREE + "goer p a 1;goer q a 1;goer r a 1;wants p c 9;wants q b 1;wants r b 5;"), 14, 2, -2, 1);
+        each(Check.of(SIX + FIVE + "wants p f 9;wants r e 8;wants t d 7;"), 24, 5, -2, 4, -2, 3);
+    }
+
     static void p21ThenTheLowestForTheFirst() {
         each(Check.of(SIX + "goer p f 1;wants p c 4;wants p e 4;wants p b 3;"), 4, 2);
         each(Check.of(TWO + "goer p a 1;goer q a 1;wants p a 5;wants p b 5;wants q a 5;wants q b 5;"), 10, 0, 1);
@@ -595,6 +624,17 @@ public final class EdgesAheadTest {
         x.flap(1, 6);
         // q takes b, too, without a: 8 + 99 less 16; now q's CHOICE is b: 9 - 4 + 99 - 4
         check.due("who sees b takes it", x.closing(), 0);
+    }
+
+    static void p22NoneIsTakenHoweverFarTheySee() {
+        BlinkerCross x = Check.of("road a 1;goer p a 6;wants p a 5;crowds=6;");
+        check.due("one road", x.closing(), 1);
+        // of the text ahead all roads were told, and on each one would have lost 99
+        BlinkerCross y = Check.of(SIX + "goer p a 6;crowds=99;");
+        check.due("closing()", y.closing(), 0);
+        Check.feed(y, "road a 1;goer p a 6;wants p a 5;crowds=6;");
+        check.due("read()", y.read(), 0);
+        check.due("one road", y.closing(), 1);
     }
 
     static void p22OfTheOthersTheyTakeTheirChoice() {

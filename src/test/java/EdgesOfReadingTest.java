@@ -405,6 +405,14 @@ public final class EdgesOfReadingTest {
             fine("road " + word + "x 1;");
             fine("road " + word.substring(0, word.length() - 1) + "q 1;");
         }
+        for (String word : WORDS) {
+            for (int size = 1; size < word.length(); size++) {
+                String part = word.substring(0, size);
+                boolean isWord = Arrays.asList(WORDS).contains(part);
+                fault(isWord ? 1 : 0, "road " + (isWord ? "^" : "") + part + " 1;");
+            }
+        }
+        fault(1, "keeps=^i 1<2 then 3 else 4;");
         fine("road text 1;road tell 1;road law 1;road part 1;road unit 1;road var 1;");
         fine("road e 1;road name 1;road int 1;road goers 1;road roa 1;road stand 1;");
     }
@@ -657,6 +665,10 @@ public final class EdgesOfReadingTest {
         }
         fine("keeps=((((((1)+(2))+(3))+(4))+(5))+(6))+(7)+(8);");
         fine("keeps=(1)" + "+(1)".repeat(40) + ";");
+        for (String row : new String[] {"+1", "-1", "*1", "/1", "*1/1+1-1"}) {
+            fine("keeps=1" + row.repeat(40) + "*" + six + "/" + six + ";");
+            fault(2, "keeps=1" + row.repeat(40) + "*" + open + "^(1)" + shut + ";");
+        }
         fault(2, "keeps=((((((1)+(^(2)))))));");
         fault(2, "keeps=(2*(2*(2*(2*(2*(2*^(2*1)))))));");
         fault(2, "keeps=" + open + "^((((");

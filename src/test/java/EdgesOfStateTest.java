@@ -397,6 +397,15 @@ public final class EdgesOfStateTest {
         check.due("one road alone", Check.of("road a 1;goer p a 6;wants p a 9;stands=next+7;").goer(0, 4), 7);
     }
 
+    static void p07NextOfMoreGoersThanRoads() {
+        BlinkerCross x = Check.of("road a 1;road b 1;goer p a 2;goer q a 2;goer r a 2;goer s a 2;goer t a 2;wants p a 10;"
+                + "wants p b 1;wants q a 10;wants q b 2;wants r a 10;wants r b 3;wants s a 10;wants s b 4;wants t a 10;"
+                + "wants t b 5;stands=next;");
+        for (int g = 0; g < 5; g++) {
+            check.due("STANDS of " + g, x.goer(g, 4), g + 1);
+        }
+    }
+
     static void p07HereCountsThemselvesToo() {
         String five = THREE + FIVE + "stands=here;";
         BlinkerCross x = Check.of(five);
@@ -779,6 +788,17 @@ public final class EdgesOfStateTest {
         }
     }
 
+    static void p14Sight1MoreHoweverLongTheyStand() {
+        for (String stands : new String[] {"0", "7", "99"}) {
+            BlinkerCross x = Check.of(SIX + "goer p a 6;keeps=if day<5 then 1 else 0;stands=" + stands + ";");
+            x.days(5);
+            for (int sight = 1; sight <= 6; sight++) {
+                check.due("STANDS " + stands + ", SIGHT", x.goer(0, 1), sight);
+                x.days(1);
+            }
+        }
+    }
+
     static void p14AsMuchAsSetSinceAtMost() {
         BlinkerCross x = Check.of(SIX + "goer p a 6;keeps=if day<1 then 1 else 0;");
         x.flap(0, 3);
@@ -982,6 +1002,18 @@ public final class EdgesOfStateTest {
         x.days(1);
         check.due("9 less 4", x.gained(0), 4 + 5);
         check.due("0 less 1", x.gained(4), -5 - 1);
+    }
+
+    static void p14GainByTheWantAndWideOfTheChoice() {
+        // p on c: 50 less 9 + 5; q on a: 20 less 2 + 2; r on b: 40 less 5 + 4
+        BlinkerCross x = Check.of("road a 2;road b 5;road c 9;goer p c 1;goer q a 1;goer r b 1;wants p c 50;wants q a 20;"
+                + "wants r b 40;crowds=wide+want/10;");
+        check.due("GAIN of all", x.count(5), 36 + 16 + 31);
+        x.days(1);
+        check.due("gained(0)", x.gained(0), 36);
+        check.due("gained(1)", x.gained(1), 16);
+        check.due("gained(2)", x.gained(2), 31);
+        check.due("in 2 days", x.gainedIn(0, 2), 3 * 36);
     }
 
     static void p14StandsOf0And99() {
